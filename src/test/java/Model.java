@@ -22,10 +22,6 @@ final class Model {
     private boolean strict;
     private int at;
 
-    byte[] tape() {
-        return tape.clone();
-    }
-
     int feed(int... words) {
         byte[] more = new byte[20];
         for (int i = 0; i < 20; i++) {
