@@ -50,21 +50,13 @@ public final class ModelTest {
         }
     }
 
-    private static String outcome(Check.Call call) {
-        try {
-            return "answers " + call.run();
-        } catch (RuntimeException e) {
-            return e.getClass().getSimpleName();
-        }
-    }
-
     private void both(String name, String arguments, Check.Call mine, Check.Call models) {
         if (calls >= CALLS) {
             return;
         }
         calls++;
-        String want = outcome(models);
-        String got = outcome(mine);
+        String want = Check.outcome(models);
+        String got = Check.outcome(mine);
         SEEN.merge(name + ": " + want.split(" ")[0], 1, Integer::sum);
         Check.due("run " + run + ", call " + calls + ": " + name + "(" + arguments + ") " + got
             + ", due is " + want + " (1)", 1, want.equals(got) ? 1 : 0);
