@@ -175,6 +175,8 @@ public final class ContentsTest {
         Check.due("other identifiers, the same contents", 0, x.compare(1, 2));
         RuleReader y = Check.reading("30 07 02 01 05 04 81 01 05");
         Check.due("other lengths of the length, the same contents", 0, y.compare(1, 2));
+        RuleReader v = Check.reading("30 09 04 01 01 05 00 04 02 01 05");
+        Check.due("what is behind them is not theirs", -1, v.compare(1, 3));
         RuleReader z = Check.reading("30 0d 30 80 02 01 05 00 00 04 04 02 01 05 00");
         Check.due("an open one, without the two at its end", 0, z.compare(1, 3));
         RuleReader w = Check.reading("30 80 30 80 02 01 05 00 00 04 05 02 01 05 00 01 00 00");

@@ -75,14 +75,21 @@ public final class TermsTest {
         Readings.none("04 01");
         Readings.none("04 81");
         Readings.none("04 82 01");
+        // what is missing would be found in the value behind the one around it
+        Readings.none("30 05 30 01 05 00 00");
+        Readings.none("30 06 30 02 04 81 00 00");
+        Readings.none("30 06 30 02 04 01 05 00");
+        Readings.none("30 80 30 01 05 00 00 00 00");
         Readings.ok("04 00", 1);
         Readings.ok("00 00", 1);
     }
 
     private static void classes() {
         for (int c = 0; c <= 3; c++) {
-            Check.nodeIs(Check.reading(hex(64 * c + 2) + " 00"), 0, c, 2, 0, 0, 2, 0, -1, 0);
-            Check.nodeIs(Check.reading(hex(64 * c + 32 + 2) + " 00"), 0, c, 2, 1, 0, 2, 0, -1, 0);
+            for (int k : new int[] {0, 1, 30}) {
+                Check.nodeIs(Check.reading(hex(64 * c + k) + " 00"), 0, c, k, 0, 0, 2, 0, -1, 0);
+                Check.nodeIs(Check.reading(hex(64 * c + 32 + k) + " 00"), 0, c, k, 1, 0, 2, 0, -1, 0);
+            }
             Check.nodeIs(Check.reading(hex(64 * c + 31) + " 1f 00"), 0, c, 31, 0, 0, 3, 0, -1, 0);
             Check.nodeIs(Check.reading(hex(64 * c + 32 + 31) + " 1f 00"), 0, c, 31, 1, 0, 3, 0, -1, 0);
         }
@@ -149,6 +156,8 @@ public final class TermsTest {
     private static void numbersWithoutEnd() {
         Readings.none("1f");
         Readings.none("1f 81");
+        Readings.none("1f 81 80");
+        Readings.none("1f 81 80 00");
         Readings.none("1f ff*20");
         Readings.none("1f ff*20 7f");
         Readings.none("30 02 1f 81");
@@ -156,7 +165,11 @@ public final class TermsTest {
         Readings.none("30 03 1f 81 80 00 00");
         Readings.none("30 01 1f 1f 00");
         Readings.none("30 80 1f 81 80");
+        // it would end in the value behind the one around it
+        Readings.none("30 06 30 02 1f 81 01 00");
+        Readings.none("30 05 30 01 1f 1f 00");
         Readings.ok("30 04 1f 81 00 00", 2);
+        numberIs("1f 81 80 00", 16384);
     }
 
     private static void greatNumbers() {
@@ -271,6 +284,9 @@ public final class TermsTest {
         Readings.none("30 04 30 80 05 00 00 00");
         Readings.none("30 05 30 80 05 00 00 00");
         Readings.none("30 80 30 02 30 80 00 00 00 00");
+        Readings.none("30 06 30 02 30 80 00 00");
+        Readings.none("30 07 30 03 30 80 00 00 00");
+        Readings.none("30 08 30 04 30 80 05 00 00 00");
     }
 
     private static void zerosElsewhere() {
@@ -307,6 +323,12 @@ public final class TermsTest {
         Readings.none("30 04 30 03 05 00 05 00");
         Readings.none("30 04 30 01 05 00");
         Readings.none("30 02 1f 1f 00");
+        // where it ends a value begins that one within it would reach into
+        Readings.none("30 06 30 02 04 01 05 00");
+        Readings.none("30 08 30 02 30 02 05 00 05 00");
+        Readings.none("30 06 30 02 30 02 05 00");
+        Readings.none("30 80 30 02 04 01 05 00 00 00");
+        Readings.ok("30 06 30 02 04 00 05 00", 4);
     }
 
     private static void anyBytes() {
